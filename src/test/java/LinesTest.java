@@ -12,6 +12,8 @@ final class LinesTest {
         clears();
         clearsTheLeast();
         clearsNone();
+        clearsWithBends();
+        clearsWhatStraysAnyway();
         bars();
         DUE.ends();
     }
@@ -70,6 +72,10 @@ final class LinesTest {
         strayAll(x, odd);
         x.pass(1);
         strayAll(x, even);
+        x.pass(1);
+        strayAll(x, odd);
+        x.lay(0, 3);
+        DUE.is("14: a FIND that is no more than v", x.strays(3, 0, 4), 0);
         StraightFurrow told = Due.in("draw 9 x=0;hold 4 x=0;hold 5 x=1");
         told.lay(0, 4);
         told.lay(1, 3);
@@ -102,6 +108,12 @@ final class LinesTest {
         DUE.is("17: start(-1)", x.start(-1), -1);
         x.away(0, true);
         DUE.is("17: AWAY or not", x.start(0), 3);
+        StraightFurrow y = Due.in("draw 1 l=0|l>1");
+        y.man(0, 0, 8);
+        DUE.is("17: just one is straight", y.start(0), 1);
+        StraightFurrow z = Due.in("draw 1 l>0&l<8");
+        z.man(0, 0, 4);
+        DUE.is("17: the first of two", z.start(0), 0);
     }
 
     private static void wavers() {
@@ -190,6 +202,39 @@ final class LinesTest {
         DUE.is("19: all twelve", z.clear(0), 4095);
         z.peg(0, 8);
         DUE.is("19: by the hedge", z.clear(0), 0);
+    }
+
+    /** Up at 0, down at 5, and up by the FIND at 8. */
+    private static void clearsWithBends() {
+        String moves = ";draw 1 x=0;hold 1 x=5;draw 1 f=3";
+        int[] passes = {32, 33, 36, 37};
+        int[] due = {0, 1 << 8, 1 << 8, -5};
+        for (int i = 0; i < passes.length; i++) {
+            StraightFurrow x = Due.in("pass " + passes[i] + moves);
+            x.man(0, 0, 4);
+            x.lay(8, 3);
+            DUE.is("19: clear(0) with bends, PASS " + passes[i], x.clear(0), due[i]);
+        }
+    }
+
+    /** A STEP draws though its FIND is taken, or else holds: by the LANE. */
+    private static void clearsWhatStraysAnyway() {
+        StraightFurrow x = Due.in("pass 40;draw 1 x=3;draw 1 f=2&x=5");
+        x.man(0, 0, 4);
+        x.lay(3, 1);
+        x.lay(5, 2);
+        DUE.is("19: it strays at 3 anyway", x.clear(0), -5);
+        x.peg(0, 8);
+        DUE.is("19: not by the hedge", x.clear(0), 0);
+        StraightFurrow y = Due.in("pass 38;draw 1 f=1&l<6;hold 1 f=0&x=7&l=5;draw 1 x=9&f=0");
+        y.man(0, 0, 4);
+        y.lay(7, 1);
+        y.lay(9, 2);
+        y.lay(2, 1);
+        // By 2 and 7 to LANE 6: 36. Without 2 to 5: 38; without 7 to 5, and back to 4 behind STEP 7: less.
+        DUE.is("19: that at 2, not that at 7", y.clear(0), 1 << 2);
+        y.lay(2, 0);
+        DUE.is("19: it passes then", y.clear(0), 0);
     }
 
     private static void bars() {

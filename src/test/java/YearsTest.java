@@ -8,6 +8,7 @@ final class YearsTest {
         asFarAsCanBe();
         refusals();
         on();
+        onByAllKinds();
         when();
         whenLate();
         DUE.ends();
@@ -128,6 +129,35 @@ final class YearsTest {
         DUE.is("15: on(1, 21)", x.on(1, 21), 0);
         DUE.is("15: on(2, 21)", x.on(2, 21), 1);
         DUE.is("15: on(3, 21)", x.on(3, 21), -5);
+    }
+
+    private static StraightFurrow allKinds() {
+        StraightFurrow x = Due.in("pass 36;draw 6 x=3;hold 7 x=5&l>2;draw 9 y>4&x=1;hold 9 y=2&x=7;draw 2 f=8");
+        int[] kinds = {6, 6, 4, 5, 6, 3};
+        for (int i = 0; i < kinds.length; i++) {
+            x.man(kinds[i], i + 2, i + 1);
+        }
+        for (int k = 0; k < 4; k++) {
+            x.row(0, k, k + 2);
+            x.row(1, k, 4);
+            x.row(4, k, k == 2 ? 5 : 4);
+        }
+        x.lay(3, 5);
+        x.lay(5, 8);
+        x.lay(1, 3);
+        return x;
+    }
+
+    private static void onByAllKinds() {
+        StraightFurrow x = allKinds();
+        StraightFurrow y = allKinds();
+        for (int n = 1; n <= 25; n++) {
+            y.pass(1);
+            DUE.is("15: all kinds, on(" + n + ", 0)", x.on(n, 0), y.told(2));
+            for (int i = 0; i < 6; i++) {
+                DUE.is("15: all kinds, on(" + n + ", 1" + i + ")", x.on(n, 10 + i), y.of(i, 4));
+            }
+        }
     }
 
     private static void when() {
