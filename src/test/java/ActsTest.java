@@ -168,7 +168,7 @@ final class ActsTest {
             for (int what = 0; what <= 6; what++) {
                 told.append(x.of(man, what)).append(' ');
             }
-            for (int step = 0; step < 12; step++) {
+            for (int step = 0; step < 4; step++) {
                 told.append(x.strays(man, step, 4)).append(' ');
             }
             told.append(x.from(man)).append(' ');

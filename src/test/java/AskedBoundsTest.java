@@ -26,10 +26,12 @@ final class AskedBoundsTest {
         clearAtTheEnds();
         clearFewest();
         clearLeastAsBits();
+        clearStraysOtherwise();
         clearFindsAlone();
         clearNone();
         barAtTheEnds();
         barByFour();
+        triedByAllSix();
         DUE.ends();
     }
 
@@ -321,6 +323,59 @@ final class AskedBoundsTest {
         x.lay(2, 0);
         Due.parish(x, "pass 38");
         DUE.is("T2 CLEAR, of two the least", x.clear(0), 1 << 5);
+        // Six pairs let it be 34: 1 and 2 are the least as bits, 0 and 3 have the least STEP
+        StraightFurrow y = one("pass 34;draw 1 f=1;hold 1 f=2", 0);
+        int[] finds = {1, 2, 2, 1, 2};
+        for (int step = 0; step < finds.length; step++) {
+            y.lay(step, finds[step]);
+        }
+        DUE.is("T2 its SCORE", y.of(0, 6), 28);
+        DUE.is("T2 CLEAR, of six pairs the least", y.clear(0), 6);
+    }
+
+    /** .. were no FIND there: it may stray there all the same, and otherwise. */
+    private static void clearStraysOtherwise() {
+        StraightFurrow x = one("pass 36;draw 1 x=0&f=0;hold 1 x=0&f=1;hold 1 x=1;hold 1 x=5&l=2", 0);
+        x.lay(0, 1);
+        DUE.is("T2 its SCORE, three down", x.of(0, 6), 34);
+        DUE.is("T2 CLEAR, up and down then", x.clear(0), 1);
+        StraightFurrow y = one("pass 36;hold 1 x=0&f=0;draw 1 x=0&f=1;draw 1 x=1;draw 1 x=5&l=6", 0);
+        y.lay(0, 1);
+        DUE.is("T2 its SCORE, three up", y.of(0, 6), 34);
+        DUE.is("T2 CLEAR, down and up then", y.clear(0), 1);
+    }
+
+    /** What is tried goes by all six MEN, with all of each: ROWS of the last, too. */
+    private static void triedByAllSix() {
+        StraightFurrow x = Due.in("pass 40;draw 1 f=9");
+        for (int man = 0; man < 6; man++) {
+            x.man(6, 0, 4);
+            for (int k = 0; k < 4; k++) {
+                x.row(man, k, 4);
+            }
+        }
+        x.row(5, 3, 5);
+        x.plan(0, 0);
+        DUE.is("T2 ON: the last is not straight by his ROW", x.on(1, 0), 31);
+        DUE.is("T2 DONE: the same", x.done(0), 31);
+        x.row(5, 3, 4);
+        DUE.is("T2 ON: all are straight", x.on(1, 0), 63);
+        DUE.is("T2 ON: the first of six wins", x.on(60, 10) * 100 + x.on(60, 15), 6000);
+        for (int man = 0; man < 6; man++) {
+            DUE.is("T2 WAVER of " + man, x.waver(man, 9), 0);
+            DUE.is("T2 ODDS of " + man, x.odds(man, 8, 0), 1);
+            DUE.is("T2 CLEAR of " + man, x.clear(man), 0);
+            DUE.is("T2 START of " + man, x.start(man), 0);
+            DUE.is("T2 FIRM of " + man, x.firm(man, 0), 10);
+        }
+        DUE.is("33: image()", x.image(), 6);
+        for (int k = 0; k < 4; k++) {
+            x.row(5, k, k);
+        }
+        DUE.is("34: undo()", x.undo(), 6);
+        for (int k = 0; k < 4; k++) {
+            DUE.is("34: ROW of the last is as ahead: " + k, x.row(5, k, 0), 4);
+        }
     }
 
     /** (of STEPS with FINDS alone) */
